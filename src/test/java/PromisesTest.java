@@ -606,6 +606,16 @@ public final class PromisesTest {
         error("b0>1:100", 7);
         error("b0>1:50:", 7);
         error("b0>1:5b", 6);
+        error("b/", 1);
+        error("b0>/", 3);
+        error("b0>1/", 4);
+        error("b0>1:/", 5);
+        error("b0>1::", 5);
+        error("b0>1:1/", 6);
+        error("b0>1:1:", 6);
+        error("g/", 1);
+        error("q0/", 2);
+        error("q/", 1);
         error("d1;x;!", 3);
         VoteLogs x = new VoteLogs();
         x.begin(0, 2, 1);
@@ -1369,6 +1379,10 @@ public final class PromisesTest {
             noArgument(y, () -> y.greatestSize(0, to));
         }
         noArgument(y, () -> y.greatestSize(3, 8));
+        VoteLogs small = after("b0>123:33;d9;d9");
+        due(small.amount(0), 1);
+        due(small.greatestSize(0, 4), 1);
+        due(small.greatestSize(0, 12), 0);
         VoteLogs all = after("b0>1:1;b0>1:1;b0>1:1;b0>1:1;b0>1:1;b0>1:1;b0>1:1;b0>1:1");
         due(all.greatestSize(0, 2), 50);
         for (int i = 0; i < 8; i++) {
@@ -1407,6 +1421,12 @@ public final class PromisesTest {
         x.undo();
         x.undo();
         due(x.meanSize(), 25.5f);
+        x.keep();
+        x.undo();
+        x.begin(1, 1, 30);
+        due(x.meanSize(), 40.0f);
+        x.goBack();
+        due(x.meanSize(), 25.5f);
     }
 
     private static final class Hash {
@@ -1421,11 +1441,14 @@ public final class PromisesTest {
         }
     }
 
-    /** The buffer is told by the test, since no call tells its characters. */
-    private static long digest(VoteLogs x, int saved, boolean kept, String buffer) {
-        Hash h = new Hash();
-        h.add(x.transfers());
-        for (int t = 0; t < x.transfers(); t++) {
+    private interface Maker {
+        VoteLogs make();
+    }
+
+    private static void addTransfers(Hash h, VoteLogs x) {
+        int transfers = x.transfers();
+        h.add(transfers);
+        for (int t = 0; t < transfers; t++) {
             h.add(x.partners(t));
             h.add(x.outcome(t));
             h.add(x.outcomeByStores(t));
@@ -1439,6 +1462,9 @@ public final class PromisesTest {
                 h.add(x.stateByLog(s, t));
             }
         }
+    }
+
+    private static void addSites(Hash h, VoteLogs x) {
         for (int s = 0; s < 4; s++) {
             h.add(x.amount(s));
             h.add(x.amountByLog(s));
@@ -1447,16 +1473,21 @@ public final class PromisesTest {
         }
         for (int site = 0; site < 5; site++) {
             h.add(x.isUp(site));
-            h.add(x.records(site));
-            for (int place = 0; place < x.records(site); place++) {
+            int records = x.records(site);
+            h.add(records);
+            for (int place = 0; place < records; place++) {
                 h.add(x.recordKind(site, place));
                 h.add(x.recordTransfer(site, place));
             }
         }
+    }
+
+    private static void addMessages(Hash h, VoteLogs x) {
         h.add(x.total());
         h.add(x.onTheWay());
-        h.add(x.waiting());
-        for (int place = 0; place < x.waiting(); place++) {
+        int waiting = x.waiting();
+        h.add(waiting);
+        for (int place = 0; place < waiting; place++) {
             h.add(x.kindOf(place));
             h.add(x.transferOf(place));
             h.add(x.storeOf(place));
@@ -1467,6 +1498,15 @@ public final class PromisesTest {
         h.add(x.lost());
         h.add(x.messagesToSettle());
         h.add(x.greatestSize(0, 14));
+    }
+
+    /** Like objects are asked, one for each part of the list, so that none has more than 512 calls. */
+    private static void digestIs(Maker maker, int saved, boolean kept, String buffer) {
+        Hash h = new Hash();
+        addTransfers(h, maker.make());
+        addSites(h, maker.make());
+        VoteLogs x = maker.make();
+        addMessages(h, x);
         h.add(saved);
         h.add(Double.doubleToLongBits(x.lostShare()));
         h.add(Float.floatToIntBits(x.meanSize()));
@@ -1475,41 +1515,61 @@ public final class PromisesTest {
         for (char sign : buffer.toCharArray()) {
             h.add(sign);
         }
-        return h.hash;
+        due(maker.make().digest(), h.hash);
+    }
+
+    /** The first so many of some calls that bring much about, each of them undoable. */
+    private static VoteLogs afterCalls(int calls) {
+        VoteLogs x = new VoteLogs();
+        Call[] all = {() -> x.begin(0, 14, 33), () -> x.begin(1, 4, 50), () -> x.deliver(0), () -> x.crash(3), () -> x.deliver(2),
+            () -> x.crash(4), () -> x.recover(4), () -> x.deliver(4), () -> x.recover(3), () -> x.begin(2, 3, 7), () -> x.deliverAll()};
+        for (int i = 0; i < calls; i++) {
+            all[i].answer();
+        }
+        return x;
+    }
+
+    private static VoteLogs ofSizes(int count, int losses) {
+        int[] sizes = {1, 3, 2, 2, 12, 50, 50, 49};
+        VoteLogs x = new VoteLogs();
+        for (int i = 0; i < count; i++) {
+            x.begin(0, 14, sizes[i]);
+            x.deliver(0);
+        }
+        for (int i = 0; i < losses; i++) {
+            x.lose(x.waiting() - 1);
+        }
+        return x;
     }
 
     private static void promise50() {
-        VoteLogs x = new VoteLogs();
-        due(x.digest(), digest(x, 0, false, ""));
-        type(x, "b0>1:5;x~!");
-        due(x.digest(), digest(x, 0, false, "b0>1:5;x~!"));
-        x.keep();
-        due(x.digest(), digest(x, 0, true, "b0>1:5;x~!"));
-        x.clearBuffer();
-        x.begin(0, 14, 33);
-        due(x.digest(), digest(x, 1, true, ""));
-        x.begin(1, 4, 50);
-        x.deliver(0);
-        x.crash(3);
-        x.deliver(2);
-        due(x.lost(), 1);
-        due(x.digest(), digest(x, 5, true, ""));
-        x.crash(4);
-        x.recover(4);
-        due(x.digest(), digest(x, 6, true, ""));
-        x.undo();
-        due(x.digest(), digest(x, 5, true, ""));
-        x.undo();
-        x.undo();
-        x.undo();
-        x.undo();
-        x.undo();
-        due(x.digest(), digest(x, 0, true, ""));
-        for (int size = 1; size <= 7; size++) {
-            x.begin(2, 1, size * size % 50 + 1);
-            x.lose(0);
-            due(x.digest(), digest(x, Math.min(6, 2 * size), true, ""));
+        digestIs(() -> new VoteLogs(), 0, false, "");
+        for (int i = 0; i <= 11; i++) {
+            int calls = i;
+            digestIs(() -> afterCalls(calls), Math.min(6, calls), false, "");
         }
+        digestIs(() -> {
+            VoteLogs x = afterCalls(11);
+            type(x, "b0>1:5;x~!");
+            return x;
+        }, 6, false, "b0>1:5;x~!");
+        digestIs(() -> {
+            VoteLogs x = afterCalls(7);
+            x.keep();
+            x.undo();
+            x.undo();
+            type(x, "d1");
+            return x;
+        }, 4, true, "d1");
+        for (int i = 1; i <= 8; i++) {
+            int count = i;
+            digestIs(() -> ofSizes(count, 0), Math.min(6, 2 * count), false, "");
+        }
+        for (int i = 1; i <= 25; i++) {
+            int losses = i;
+            digestIs(() -> ofSizes(8, losses), 6, false, "");
+        }
+        due(new VoteLogs().digest() == afterCalls(1).digest(), false);
     }
 
     public static void main(String[] args) {
