@@ -1,114 +1,5 @@
 /** For each promise of the document, calls with the answers that are due by its words. */
-public final class PromisesTest {
-    private interface Call {
-        Object answer();
-    }
-
-    private static final int MANY = Integer.MAX_VALUE;
-    private static final int FEW = Integer.MIN_VALUE;
-
-    private static int checks;
-    private static int wrong;
-    private static int promise;
-
-    // ---- how a check is made
-
-    private static void due(Object got, Object want) {
-        checks++;
-        if (!want.equals(got)) {
-            wrong++;
-            StackTraceElement[] trace = new Throwable().getStackTrace();
-            int i = 0;
-            while (i < trace.length - 1 && !trace[i].getMethodName().startsWith("promise")) {
-                i++;
-            }
-            System.out.println("promise " + promise + ", line " + trace[i].getLineNumber() + ": answered " + got + ", due is " + want);
-        }
-    }
-
-    private static String name(Class<?> kind) {
-        return "throws." + kind.getSimpleName();
-    }
-
-    /** The call throws this very kind, and changes nothing that the digest or an undo could tell. */
-    private static void refused(VoteLogs x, Class<? extends RuntimeException> kind, Call call) {
-        long before = x.digest();
-        Object got;
-        try {
-            got = call.answer();
-        } catch (RuntimeException e) {
-            got = name(e.getClass());
-        }
-        due(got, name(kind));
-        due(x.digest(), before);
-    }
-
-    private static void noIndex(VoteLogs x, Call call) {
-        refused(x, IndexOutOfBoundsException.class, call);
-    }
-
-    private static void noArgument(VoteLogs x, Call call) {
-        refused(x, IllegalArgumentException.class, call);
-    }
-
-    private static void noState(VoteLogs x, Call call) {
-        refused(x, IllegalStateException.class, call);
-    }
-
-    private interface OfNumber {
-        Object answer(int number);
-    }
-
-    /** No number from 0 to the last is refused, and those past them are. */
-    private static void numbersTo(VoteLogs x, int last, OfNumber call) {
-        for (int number = 0; number <= last; number++) {
-            call.answer(number);
-        }
-        noNumbersPast(x, last, call);
-    }
-
-    private static void noNumbersPast(VoteLogs x, int last, OfNumber call) {
-        for (int number : new int[] {-1, last + 1, 32, FEW, MANY}) {
-            noIndex(x, () -> call.answer(number));
-        }
-    }
-
-    private static void type(VoteLogs x, String text) {
-        for (int i = 0; i < text.length(); i++) {
-            x.append(text.charAt(i));
-        }
-    }
-
-    private static int run(VoteLogs x, String text) {
-        x.clearBuffer();
-        type(x, text);
-        return x.runCourse();
-    }
-
-    /** A new object on which a course was run to its end. */
-    private static VoteLogs after(String text) {
-        VoteLogs x = new VoteLogs();
-        int parts = text.split(";").length;
-        due(run(x, text), parts);
-        return x;
-    }
-
-    private static String row(VoteLogs x) {
-        StringBuilder text = new StringBuilder();
-        for (int place = 0; place < x.waiting(); place++) {
-            text.append(place == 0 ? "" : " ").append(x.kindOf(place)).append(x.transferOf(place)).append(x.storeOf(place));
-        }
-        return text.toString();
-    }
-
-    private static String log(VoteLogs x, int site) {
-        StringBuilder text = new StringBuilder();
-        for (int place = 0; place < x.records(site); place++) {
-            text.append(place == 0 ? "" : " ").append(x.recordKind(site, place)).append(x.recordTransfer(site, place));
-        }
-        return text.toString();
-    }
-
+public final class PromisesTest extends Checks {
     // ---- transfers, messages, crashes
 
     private static void promise1() {
@@ -1586,18 +1477,8 @@ public final class PromisesTest {
             PromisesTest::promise46, PromisesTest::promise47, PromisesTest::promise48, PromisesTest::promise49, PromisesTest::promise50,
         };
         for (int i = 0; i < promises.length; i++) {
-            promise = i + 1;
-            try {
-                promises[i].run();
-            } catch (RuntimeException e) {
-                wrong++;
-                System.out.println("promise " + promise + " ended by " + e);
-                e.printStackTrace(System.out);
-            }
+            test("promise " + (i + 1), promises[i]);
         }
-        System.out.println(promises.length + " promises, " + checks + " checks, " + wrong + " answers that are not due");
-        if (wrong != 0) {
-            System.exit(1);
-        }
+        end();
     }
 }
