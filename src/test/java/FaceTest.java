@@ -10,7 +10,9 @@ import java.util.ArrayList;
 import java.util.Arrays;
 import java.util.HashSet;
 import java.util.List;
+import java.util.Map;
 import java.util.Set;
+import java.util.TreeMap;
 import java.util.TreeSet;
 import java.util.regex.Matcher;
 import java.util.regex.Pattern;
@@ -175,9 +177,69 @@ public final class FaceTest {
         check("there are more than twelve classes", classes <= 12);
     }
 
+    /** For each method, the methods of the file that its body calls; methods of one name count as one. */
+    private static Map<String, Set<String>> callsByMethod() throws IOException {
+        Pattern head = Pattern.compile("^(?: {4}| {8})(?:[\\w\\[\\]]+ )+(\\w+)\\(.*\\{$");
+        Pattern call = Pattern.compile("\\b(\\w+)\\(");
+        Map<String, Set<String>> calls = new TreeMap<>();
+        Set<String> open = new TreeSet<>();
+        for (String line : sourceWithoutComments()) {
+            Matcher start = head.matcher(line);
+            if (start.matches()) {
+                open = calls.computeIfAbsent(start.group(1), name -> new TreeSet<>());
+                continue;
+            }
+            Matcher inside = call.matcher(line);
+            while (inside.find()) {
+                open.add(inside.group(1));
+            }
+        }
+        for (Set<String> called : calls.values()) {
+            called.retainAll(calls.keySet());
+        }
+        return calls;
+    }
+
+    /** How many calls stand open at most when this one does; far too many if they go round. */
+    private static int depth(Map<String, Set<String>> calls, String name, int above) {
+        int deepest = 0;
+        if (above < 20) {
+            for (String called : calls.get(name)) {
+                deepest = Math.max(deepest, depth(calls, called, above + 1));
+            }
+        }
+        return 1 + deepest;
+    }
+
+    private static void depths() throws IOException {
+        Map<String, Set<String>> calls = callsByMethod();
+        for (String line : FACE) {
+            String name = line.substring(line.indexOf(' ') + 1, line.indexOf('('));
+            check("the source has no method " + name, calls.containsKey(name));
+            if (calls.containsKey(name)) {
+                int depth = depth(calls, name, 0);
+                check(name + " goes " + depth + " calls deep", depth <= 8);
+            }
+        }
+    }
+
+    private static void fields() {
+        List<Class<?>> all = new ArrayList<>(Arrays.asList(VoteLogs.class.getDeclaredClasses()));
+        all.add(VoteLogs.class);
+        for (Class<?> one : all) {
+            int count = 0;
+            for (Field field : one.getDeclaredFields()) {
+                count += Modifier.isStatic(field.getModifiers()) ? 0 : 1;
+            }
+            check(one + " has " + count + " fields", count <= 20);
+        }
+    }
+
     public static void main(String[] args) throws Exception {
         face();
         language();
+        depths();
+        fields();
         System.out.println(wrong == 0 ? "the face and the language are as due" : wrong + " things are not as due");
         if (wrong != 0) {
             System.exit(1);
