@@ -15,8 +15,6 @@ import java.util.List;
 import java.util.regex.Matcher;
 import java.util.regex.Pattern;
 import java.util.stream.Stream;
-import javax.tools.JavaCompiler;
-import javax.tools.ToolProvider;
 
 /** What README.md says holds: its program, the calls and the parts of courses that it names, the tests. */
 public final class ReadmeTest extends Checks {
@@ -48,13 +46,14 @@ public final class ReadmeTest extends Checks {
         return found("println\\(.*\\); *// ([^:\\n]+)", program());
     }
 
-    private static List<String> outputOfProgram(Path room) throws IOException, ReflectiveOperationException {
+    private static void compile(Path room) throws IOException, InterruptedException {
         Path source = room.resolve("Example.java");
         Files.writeString(source, program(), StandardCharsets.UTF_8);
-        JavaCompiler compiler = ToolProvider.getSystemJavaCompiler();
-        due(compiler != null, true);
-        due(compiler.run(null, null, null, "-encoding", "UTF-8", "-cp", System.getProperty("java.class.path"),
-                "-d", room.toString(), source.toString()), 0);
+        due(new ProcessBuilder("javac", "-encoding", "UTF-8", "-cp", System.getProperty("java.class.path"),
+                "-d", room.toString(), source.toString()).inheritIO().start().waitFor(), 0);
+    }
+
+    private static List<String> outputOfProgram(Path room) throws IOException, ReflectiveOperationException {
         PrintStream out = System.out;
         ByteArrayOutputStream told = new ByteArrayOutputStream();
         try (URLClassLoader loader = new URLClassLoader(new URL[] {room.toUri().toURL()})) {
@@ -80,13 +79,14 @@ public final class ReadmeTest extends Checks {
         try {
             Path room = Files.createTempDirectory("readme");
             try {
+                compile(room);
                 due(outputOfProgram(room), outputDue());
             } finally {
                 remove(room);
             }
         } catch (IOException e) {
             throw new UncheckedIOException(e);
-        } catch (ReflectiveOperationException e) {
+        } catch (ReflectiveOperationException | InterruptedException e) {
             throw new IllegalStateException(e);
         }
     }
